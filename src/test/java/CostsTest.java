@@ -36,6 +36,9 @@ public final class CostsTest {
         due("at once, as twice costs little", x.again(0, 3, 7), 1);
         due("at once, as like ones", x.again(0, 8, 38), 1);
         due("behind there and back", x.again(0, 8, 39), 20);
+        due("like ones once more", x.again(0, 80, 380), 1);
+        due("a little more", x.again(0, 80, 381), 20);
+        due("the most", x.again(0, 99, 9999), 20);
         due("all is lost: at once", x.again(1, 9, 9999), 1);
         due("nothing is lost, twice costs", x.again(2, 9, 1), 10);
         due("nothing is lost, nothing costs", x.again(2, 9, 0), 1);
@@ -244,7 +247,17 @@ public final class CostsTest {
         x.write(0, 1, 2, 19, 0);
         due("the later image", x.image(), 3);
         x.lose(2, 3);
+        x.lose(0, 2);
+        x.hold(2, 3, 7);
         due("back to it", x.back(), 3);
+        due("by none the first is lost", x.lose(0, 3), 0);
+        due("held", x.hold(2, 3, 6), 0);
+        due("an image of these", x.image(), 3);
+        x.lose(0, 0);
+        x.hold(2, 3, 0);
+        due("back to these", x.back(), 3);
+        due("the first is lost by both", x.lose(0, 0), 3);
+        due("held", x.hold(2, 3, 0), 6);
         due("lost no more", x.told(1, 8), 9);
         due("the last one neither", x.told(2, 8), 10);
     }

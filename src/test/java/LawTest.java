@@ -63,6 +63,11 @@ public final class LawTest {
         fault("   ", 3);
         fault("lat 0;write 0;keep 0;", 0);
         fault("later 0;write 0;keep 0;", 0);
+        fault("gate 0;write 0;keep 0;", 0);
+        fault("late 0;white 0;keep 0;", 7);
+        fault("late may;write 0;keep 0;", 5);
+        fault("late hag;write 0;keep 0;", 5);
+        fault("late song;write 0;keep 0;", 5);
         fault("write 0;late 0;keep 0;", 0);
         fault("late;write 0;keep 0;", 4);
         fault("late 0 write 0;keep 0;", 7);
@@ -180,6 +185,7 @@ public final class LawTest {
         value("1 = 0 + 1", 1);
         value("(1 < 2) + (3 < 4) = 2", 1);
         value("(1 < 2) * 5 = 5", 1);
+        value("(2 = 2) * 5 = 5", 1);
         value("- 5", 1);
         value("- 1 < 0", 1);
         value("9999 * 9999 * 9999 < 0", 1);

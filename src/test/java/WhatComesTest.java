@@ -7,6 +7,7 @@ public final class WhatComesTest {
         undoing();
         ifs();
         known();
+        knownOfEach();
         knownOnOneDay();
         first();
         isTrue();
@@ -144,6 +145,32 @@ public final class WhatComesTest {
         due("as of", x.knew(2, 1, 999, 1), 4);
     }
 
+    private static void knownOfEach() {
+        LettersThatCross x = withWays();
+        int[] twos = {1, 2, 10, 12, 20, 21};
+        for (int h = 0; h < 3; h++) {
+            for (int t = 0; t < 4; t++) {
+                x.hold(h, t, 3 * h + t);
+            }
+        }
+        for (int i = 0; i < 12; i++) {
+            x.write(0, twos[i % 6], i, 10 * (i / 3), -1);
+        }
+        for (int two : twos) {
+            for (int t = 0; t < 4; t++) {
+                int number = -1;
+                for (int i = 0; i < 12; i++) {
+                    boolean tells = twos[i % 6] == two % 10 * 10 + two / 10 && i / 3 == t;
+                    number = tells ? i : number;
+                }
+                int held = 3 * (two % 10) + t;
+                due("knew(" + two + ", " + t + ", 99, 0)", x.knew(two, t, 99, 0), number < 0 ? -1 : held);
+                due("knew(" + two + ", " + t + ", 99, 1)", x.knew(two, t, 99, 1), number);
+                due("first(" + two + ", " + t + ", " + held + ")", x.first(two, t, held), number < 0 ? -1 : number + 5);
+            }
+        }
+    }
+
     /** A letter tells what is held behind the day, whatever came on that day. */
     private static void knownOnOneDay() {
         LettersThatCross x = withWays();
@@ -192,6 +219,9 @@ public final class WhatComesTest {
         y.write(0, 1, 5, 0, -1);
         due("told on that day, not so behind it", y.first(10, 0, 1), -1);
         due("so behind it", y.first(10, 0, 4), 10);
+        y.hold(0, 1, 9);
+        y.write(0, 1, 20, 10, -1);
+        due("of 9", y.first(10, 1, 9), 25);
     }
 
     private static void isTrue() {
@@ -395,6 +425,15 @@ public final class WhatComesTest {
         due("of others none", x.lacks(2, 9), 0);
         due("of others none", x.lacks(10, 9), 0);
         due("of none", x.lacks(21, 9), 0);
+        int[] twos = {1, 2, 10, 12, 20, 21};
+        LettersThatCross y = withWays();
+        for (int i = 0; i < 12; i++) {
+            y.write(0, twos[i % 6], 0, i < 6 ? 100 : 0, -1);
+        }
+        for (int i = 0; i < 6; i++) {
+            due("lacks(" + twos[i] + ", 5)", y.lacks(twos[i], 5), 1 << i);
+            due("lacks(" + twos[i] + ", 10)", y.lacks(twos[i], 10), 0);
+        }
     }
 
     private static void forged() {
@@ -435,6 +474,10 @@ public final class WhatComesTest {
         due("never comes", x.bargain(0, 1), -1);
         due("never answered", x.bargain(0, 2), -1);
         due("written all the same", x.bargain(0, 0), 3);
+        LettersThatCross y = withWays();
+        y.write(0, 21, 0, 0, -1);
+        y.write(2, 12, 5, 0, 0);
+        due("answered by the very next, on the very day", y.bargain(0, 2), 10);
         due("rule 3", x.bargain(0, 3), -7);
         due("rule -1", x.bargain(0, -1), -7);
     }
