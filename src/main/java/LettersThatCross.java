@@ -1071,7 +1071,7 @@ public final class LettersThatCross {
                 if ((skipped >> l & 1) != 0) {
                     continue;
                 }
-                // Letters of days behind which nothing came up to this one tell what is held now.
+                // Nothing has come since the days of these letters: what is held now was held behind them.
                 for (; written < letterCount && letters[written].day < comes[l]; written++) {
                     tells[written] = holds[placeOf(letters[written].writer, letters[written].thing)];
                 }
@@ -1359,8 +1359,8 @@ public final class LettersThatCross {
         }
 
         private void readToken() {
-            for (; at < size && (bytes[at] == 32 || bytes[at] == 10); at++) {
-                continue;
+            while (at < size && (bytes[at] == 32 || bytes[at] == 10)) {
+                at++;
             }
             place = at;
             if (at >= size) {
@@ -1392,8 +1392,8 @@ public final class LettersThatCross {
         }
 
         private int readWord() {
-            for (; at < size && isLetterSign(bytes[at]); at++) {
-                continue;
+            while (at < size && isLetterSign(bytes[at])) {
+                at++;
             }
             int key = keyToken();
             return key == WRONG ? nameToken() : key;

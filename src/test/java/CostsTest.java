@@ -133,15 +133,17 @@ public final class CostsTest {
         x.write(4, 1, 0, 1, -1);
         x.write(4, 1, 0, 2, -1);
         x.write(5, 1, 0, 101, -1);
+        x.write(0, 1, 0, 102, -1);
+        x.write(3, 1, 0, 1, -1);
         x.lose(0, 3);
-        long[][] want = {{4, 5}, {9, 10}, {4, 5}, {1, 2}};
-        for (int l = 0; l < 4; l++) {
+        long[][] want = {{4, 5}, {9, 10}, {4, 5}, {1, 2}, {1, 2}, {4, 5}};
+        for (int l = 0; l < 6; l++) {
             due("odds(" + l + ", 0)", x.odds(l, 0), want[l][0]);
             due("odds(" + l + ", 1)", x.odds(l, 1), want[l][1]);
         }
         due("part 2", x.odds(0, 2), NO);
         due("part -1", x.odds(0, -1), NO);
-        due("letter 4", x.odds(4, 0), NO);
+        due("letter 6", x.odds(6, 0), NO);
         due("letter -1", x.odds(-1, 0), NO);
     }
 

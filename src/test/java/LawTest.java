@@ -6,6 +6,7 @@ public final class LawTest {
         feed();
         textNumbers();
         faults();
+        atTheBrim();
         fivesOpen();
         values();
         force();
@@ -117,6 +118,21 @@ public final class LawTest {
         good("late 1--1;write - - 1;keep not not 1 < 2;");
         good("late(season);write(long+had)*wrote;keep(age or day);");
         good("late 1<2 or 3=4 and not 5<6;write 1;keep (1<2)<3;");
+    }
+
+    /** Texts of 160 bytes, and such as stand where a longer one stood. */
+    private static void atTheBrim() {
+        String early = " ".repeat(138) + "late 0;write 0;keep ";
+        fault(early + "12", 160);
+        fault(early.substring(1) + "day", 160);
+        fault(early.substring(1) + "dar", 157);
+        good(early + "1;");
+        LettersThatCross x = new LettersThatCross();
+        Due.text(x, "late 0;write 0;keep 123456789;");
+        due("cut short in a number", Due.text(x, "late 0;write 0;keep 1234"), -124);
+        Due.text(x, "late 0;write 0;keep daydayday;");
+        due("cut short in a word", Due.text(x, "late 0;write 0;keep day"), -123);
+        due("cut short in a sign", Due.text(x, "late 0;write 0;keep 1"), -121);
     }
 
     private static void fivesOpen() {

@@ -244,6 +244,10 @@ public final class WhatComesTest {
         due("it changes on the very day", y.isTrue(0), 0);
         y.write(1, 20, 5, 0, -1);
         due("and back on it", y.isTrue(0), 1);
+        LettersThatCross w = withWays();
+        w.write(1, 20, 1, 6, -1);
+        w.write(0, 1, 5, 0, -1);
+        due("changed by the first letter", w.isTrue(1), 0);
         LettersThatCross z = withWays();
         z.write(0, 1, 0, 0, -1);
         z.write(1, 20, 1, 6, -1);
