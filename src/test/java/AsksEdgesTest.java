@@ -153,6 +153,12 @@ public final class AsksEdgesTest {
         due(TWO + "write 0 1 0 100 -1 | write 0 10 0 0 -1 | lacks 1 5", 0);
         due(TWO + "write 0 1 0 100 -1 | write 0 2 0 0 -1 | lacks 1 5", 0);
         due(TWO + "write 0 1 0 100 -1 | write 0 21 0 0 -1 | lacks 1 5", 0);
+        for (int hands : new int[] {1, 2, 10, 12, 20, 21}) {
+            String each = TWO + "write 0 " + hands + " 0 100 -1 | write 0 " + hands + " 0 0 -1 | ";
+            for (int asked : new int[] {1, 2, 10, 12, 20, 21}) {
+                due(each + "lacks " + asked + " 5", asked == hands ? 1 : 0);
+            }
+        }
         due(times("write 0 1 0 100 -1", 15) + "write 0 1 0 0 -1 | lacks 1 9", 32767);
         due(times("write 0 1 0 100 -1", 15) + "write 0 1 0 0 -1 | lacks 1 10", 0);
     }

@@ -165,6 +165,8 @@ public final class LawEdgesTest {
             fault("late " + name.substring(0, name.length() - 1) + ";write 0;keep 0;", 5);
             fault("late " + name.substring(0, 1).toUpperCase() + name.substring(1) + ";write 0;keep 0;", 5);
             fault("late " + name + name + ";write 0;keep 0;", 5);
+            fault("late x" + name.substring(1) + ";write 0;keep 0;", 5);
+            fault("late " + name.substring(0, name.length() - 1) + "x;write 0;keep 0;", 5);
             fault(name + " 0;write 0;keep 0;", 0);
         }
         String[] keys = {"late", "write", "keep", "or", "and"};
@@ -172,7 +174,8 @@ public final class LawEdgesTest {
             fault("late " + key + ";write 0;keep 0;", 5);
             fault("late 1 + " + key + ";write 0;keep 0;", 9);
         }
-        String[] unlike = {"lat", "lates", "writ", "writes", "kee", "keeps", "o", "ors", "an", "ands", "no", "nots", "x", "a", "z"};
+        String[] unlike = {"gate", "white", "weep", "xr", "end", "got", "lat", "lates", "writ", "writes", "kee", "keeps", "o", "ors",
+            "an", "ands", "no", "nots", "x", "a", "z"};
         for (String word : unlike) {
             fault("late 1 " + word + " 1;write 0;keep 0;", 7);
             fault("late " + word + " 1;write 0;keep 0;", 5);
@@ -342,6 +345,19 @@ public final class LawEdgesTest {
             keeps("(" + one + " and " + one + ") = 1", 1);
             keeps("(" + one + " and 0) = 0", 1);
         }
+        keeps("1 and 0", 0);
+        keeps("0 and 1", 0);
+        keeps("0 and 0", 0);
+        keeps("1 and 1", 1);
+        keeps("1 or 0", 1);
+        keeps("0 or 1", 1);
+        keeps("0 or 0", 0);
+        keeps("1 or 1 and 0", 1);
+        keeps("0 and 0 or 1", 1);
+        keeps("not 0 and 0", 0);
+        keeps("not 1 or 1", 1);
+        keeps("not 1 = 0", 1);
+        keeps("not (1 or 0)", 0);
         keeps("0", 0);
         keeps("-0", 0);
         keeps("0000", 0);

@@ -59,6 +59,8 @@ public final class RingsEdgesTest {
         rings("way 90 1 0 0 | turn 9", 150, 2, 0, 1, 0);
         rings("way 90 30 0 0", 150, 4, 90, 2, 1);
         rings("way 5 1 100 0", 6, 4, 5, 2, 1);
+        rings("way 5 1 0 0 | ring 0 150 0", 6, 4, 5, 2, 1);
+        rings("way 5 1 0 0 | ring 0 150 0", 0, 0, -1, 0, 0);
     }
 
     /** 40 each at most. */
@@ -127,8 +129,8 @@ public final class RingsEdgesTest {
     private static void endsFromTheHalf() {
         String[] words = {"0", "wrote = 0", "day < 10", "day = 74", "day = 75"};
         long[][] ends = {{0, 63}, {1, 2 | 16 | 32}, {2, 1 | 2 | 4 | 16 | 32}, {3, 1 | 2 | 4 | 16 | 32}, {19, 2 | 4 | 16 | 32},
-            {20, 2 | 4 | 8 | 16 | 32}, {21, 2 | 4 | 8 | 16 | 32}, {74, 2 | 4 | 8 | 16 | 32}, {75, 2 | 4 | 8 | 32}, {76, 2 | 4 | 8}, {148, 2 | 4 | 8}, {149, 2 | 4 | 8},
-            {150, 2 | 4 | 8 | 16}};
+            {20, 2 | 4 | 8 | 16 | 32}, {21, 2 | 4 | 8 | 16 | 32}, {74, 2 | 4 | 8 | 16 | 32}, {75, 2 | 4 | 8 | 32}, {76, 2 | 4 | 8},
+            {148, 2 | 4 | 8}, {149, 2 | 4 | 8}, {150, 2 | 4 | 8 | 16}};
         StringBuilder made = new StringBuilder("way 5 1 0 0 | ");
         for (String each : words) {
             made.append("read late 0;write ").append(each).append(";keep 0;| ");
@@ -171,5 +173,9 @@ public final class RingsEdgesTest {
         due("many 50 2 1", 0);
         due("many 50 4 1", 1);
         due("many 99 99 99", 0);
+        due("many 99 99 90", 3);
+        due("many 50 3 1", 1);
+        due("many 50 6 1", 2);
+        due("many 90 10 1", 6);
     }
 }

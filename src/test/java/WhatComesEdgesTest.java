@@ -94,6 +94,16 @@ public final class WhatComesEdgesTest {
         due(TWO + "write 0 1 0 107 -1 | write 5 1 4 0 0 | holdsThen 1 0 999", 0);
         due(TWO + "write 1 1 0 107 -1 | write 5 1 0 0 0 | write 5 1 1 0 1 | holdsThen 1 0 999", 0);
         due(TWO + "write 1 1 0 107 -1 | write 5 1 4 0 0 | write 1 1 5 106 0 | holdsThen 1 0 999", 6);
+        for (int l = 1; l <= 14; l++) {
+            String one = TWO + "write 0 2 0 0 -1 | ".repeat(l) + "hold 1 0 3 | write 1 1 0 7 -1 | write 5 1 ";
+            due(one + "0 0 " + l + " | holdsThen 1 0 5", 3);
+            due(one + "0 0 " + l + " | archive 1 5 1", 0);
+            due(one + "1 0 " + l + " | archive 1 5 1", 1 << l);
+            due(one + "1 0 " + l + " | archive 1 6 1", 0);
+            String late = TWO + "write 0 2 0 0 -1 | ".repeat(l) + "write 1 1 0 107 -1 | write 5 1 4 0 ";
+            due(late + l + " | times " + l + " 10", 0);
+            due(late + (l - 1) + " | times " + l + " 10", 1);
+        }
     }
 
     /** The reader holds what it held ahead of its being DONE, whatever came since. */
@@ -185,6 +195,10 @@ public final class WhatComesEdgesTest {
         due(TWO + "write 0 1 0 0 -1 | lose 0 1 | first 10 0 0", -1);
         due(TWO + "write 0 1 0 100 -1 | write 0 1 2 0 -1 | first 10 0 0", 7);
         due(TWO + "write 0 1 0 100 -1 | write 0 1 5 0 -1 | first 10 0 0", 10);
+        due(TWO + "write 0 1 0 0 -1 | write 0 1 2 0 -1 | first 10 0 0", 5);
+        due(TWO + "write 0 1 0 0 -1 | write 0 1 2 0 -1 | lose 1 1 | first 10 0 0", 5);
+        due(TWO + "write 0 1 0 0 -1" + " | write 0 1 0 0 -1".repeat(15) + " | first 10 0 0", 5);
+        due(States.FULL + " | first 21 0 9", -1);
         due(TWO + "hold 0 0 1 | write 1 20 0 2 -1 | write 0 1 4 100 -1 | write 0 1 9 0 -1 | first 10 0 1", -1);
         due(TWO + "hold 0 0 1 | write 1 20 0 2 -1 | write 0 1 4 0 -1 | write 0 1 5 0 -1 | first 10 0 1", 9);
         due(TWO + "hold 0 0 1 | write 1 20 0 2 -1 | write 0 1 4 0 -1 | write 0 1 5 0 -1 | first 10 0 2", 10);
@@ -227,6 +241,8 @@ public final class WhatComesEdgesTest {
         due(TWO + "write 1 1 0 0 -1 | archive 1 5 1", 1);
         due(TWO + "write 1 1 0 0 -1 | archive 0 5 0", 0);
         due(TWO + "write 1 1 0 0 -1 | lose 0 1 | archive 1 999 0", 0);
+        due(TWO + "write 1 1 0 0 -1 | archive 1 999 0 | archive 1 4 0", 0);
+        due(TWO + "write 1 1 0 0 -1 | archive 1 999 1 | archive 1 4 1", 0);
         due(TWO + "write 0 1 0 0 -1" + " | write 0 1 0 0 -1".repeat(15) + " | archive 1 5 0", 65535);
         due(TWO + "write 1 1 0 0 -1" + " | write 1 1 0 0 -1".repeat(15) + " | archive 1 5 1", 65535);
     }
@@ -276,6 +292,8 @@ public final class WhatComesEdgesTest {
         EDGES.outside("", "both 0 #", 0, 1, -2);
         EDGES.outside(States.FULL, "both 0 #", 0, 1, -2);
         EDGES.outside(States.BACK, "both # 1", 0, 999, -2);
+        due(TWO + "write 0 1 0 0 -1 | sure 0 5 | sure 0 4", 0);
+        due(TWO + "write 0 1 0 0 -1 | write 2 10 0 0 0 | lose 1 1 | sure 0 5 | lose 1 0 | both 5 0", 2);
         due(TWO + "both 999 0", 0);
         due(TWO + "both 999 1", -1);
         due(TWO + "write 0 1 0 0 -1 | both 4 1", -1);
