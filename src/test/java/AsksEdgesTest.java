@@ -78,6 +78,10 @@ public final class AsksEdgesTest {
         for (int kind = 0; kind < 6; kind++) {
             due(TWO + "write " + kind + " 1 0 1 -1 | never 0 0", kind == 1 || kind == 3 ? 1 : 0);
         }
+        due(TWO + "write 3 1 0 5 -1 | never 999 0", 1);
+        due(TWO + "hold 1 1 5 | write 3 1 0 5 -1 | never 999 0", 0);
+        due(TWO + "write 1 1 0 5 -1 | write 3 1 0 5 -1 | never 999 1", 0);
+        due(TWO + "write 1 1 0 5 -1 | write 5 1 0 0 0 | never 999 0", 1);
         due(times("write 1 1 0 0 -1", 16) + "never 4 0", 65535);
         due(times("write 1 1 0 0 -1", 16) + "never 5 1", 65535);
     }

@@ -153,6 +153,11 @@ public final class CostsEdgesTest {
         due("way 90 30 0 0 | turn 9 | write 1 1 400 9 -1 | drawn 0 1 2", 9);
         due("way 5 1 0 0 | write 0 1 0 0 -1 | lose 0 1 | drawn 0 0 0", 1);
         due("way 5 1 100 0 | write 1 1 0 0 -1 | drawn 0 0 1", 0);
+        due("way 5 1 0 0 | write 1 1 0 0 -1 | write 0 1 0 0 -1 | drawn 0 0 1", 1);
+        due("way 5 1 0 0 | write 1 1 0 0 -1 | write 3 1 0 5 -1 | drawn 0 0 1", 1);
+        due("way 5 1 0 0 | write 1 1 0 0 -1 | write 5 1 0 0 0 | drawn 0 0 1", 0);
+        due("way 5 1 0 0 | write 1 1 0 0 -1" + " | write 1 1 0 0 -1".repeat(15) + " | drawn 0 0 1", 16);
+        due("way 5 1 0 0 | write 1 1 0 0 -1" + " | write 1 1 0 0 -1".repeat(15) + " | drawn 0 0 0", 65535);
     }
 
     /** Of the one way and so many letters: the LOTS modulo 100 of seed 0 are 71, 94, .., of seed 7 68, 52, 0, 67, 99, .. */

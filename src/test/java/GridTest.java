@@ -3,7 +3,8 @@ import java.util.List;
 /** Each call with all its numbers at their bounds and beyond, in some states, compared with the Model. */
 public final class GridTest {
     private static final Due DUE = new Due("GridTest");
-    private static final int CALLS = 300;
+    /** Of one object; with those that make it and look at it no more than 512. */
+    private static final int CALLS = 16;
     private static final String[] STATES = {States.NEW, States.WAYS, States.LETTERS, States.FULL, States.BACK,
         States.FULL + " | back", States.FOUR_WAYS + " | write 1 1 0 5 -1 | write 3 1 400 339 -1 | write 5 10 400 339 0 | turn 9"};
     /** In the places of numbers: those that are tried; m and M are the least and the greatest int. */

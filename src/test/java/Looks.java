@@ -1,4 +1,4 @@
-/** All that can be seen of an object, as text; the object is changed by being looked at. Some 430 calls at most. */
+/** All that can be seen of an object, as text; the object is changed by being looked at. 420 calls at most. */
 final class Looks {
     private final LettersThatCross x;
     private final StringBuilder seen = new StringBuilder();
@@ -31,7 +31,8 @@ final class Looks {
     }
 
     private void ways() {
-        for (int w = 0; w < x.count(0); w++) {
+        int ways = x.count(0);
+        for (int w = 0; w < ways; w++) {
             see("arrive", x.arrive(w, 0));
             see("arrive", x.arrive(w, 1));
             see("arrive", x.arrive(w, 391));
@@ -42,7 +43,8 @@ final class Looks {
     }
 
     private void letters() {
-        for (int l = 0; l < x.count(1); l++) {
+        int letters = x.count(1);
+        for (int l = 0; l < letters; l++) {
             for (int what = 0; what < 10; what++) {
                 see("told", x.told(l, what));
             }
@@ -69,7 +71,8 @@ final class Looks {
 
     private void texts() {
         int law = x.count(4);
-        for (int t = 0; t < x.count(3); t++) {
+        int texts = x.count(3);
+        for (int t = 0; t < texts; t++) {
             x.force(t);
             see("days", x.arrive(0, 0));
             see("ring", x.ring(0, 30, 0));
@@ -80,17 +83,19 @@ final class Looks {
 
     /** By what letters are lost, also such as came since the image. */
     private void image() {
-        for (int l = 0; l < x.count(1); l++) {
+        int letters = x.count(1);
+        for (int l = 0; l < letters; l++) {
             see("lost", x.lose(l, 0));
         }
         see("back", x.back());
+        letters = x.count(1);
         counts();
         for (int h = 0; h < 3; h++) {
             for (int t = 0; t < 4; t++) {
                 see("at first", x.holdsThen(h, t, 0));
             }
         }
-        for (int l = 0; l < x.count(1); l++) {
+        for (int l = 0; l < letters; l++) {
             see("lost", x.lose(l, 0));
         }
     }
@@ -109,7 +114,8 @@ final class Looks {
                 see("letters", x.lettersBy(s, sort, 0, Math.min(8, size / 5)));
             }
         }
-        for (int l = Math.max(0, x.count(1) - 4); l < x.count(1); l++) {
+        int letters = x.count(1);
+        for (int l = Math.max(0, letters - 4); l < letters; l++) {
             see("day", x.told(l, 3));
             see("more", x.told(l, 6));
         }

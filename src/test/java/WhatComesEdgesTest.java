@@ -137,6 +137,10 @@ public final class WhatComesEdgesTest {
             due(told + " | knew " + two + " 3 999 0", two == 10 ? 9 : -1);
             due(told + " | knew " + two + " 3 999 1", two == 10 ? 4 : -1);
         }
+        due(TWO + "write 0 10 0 30 -1 | knew 2 0 999 0", -1);
+        due(TWO + "write 0 21 0 30 -1 | knew 20 0 999 0", -1);
+        due(TWO + "write 0 2 0 30 -1 | knew 21 0 999 0", -1);
+        due(TWO + "write 0 20 0 0 -1 | knew 1 3 999 0", -1);
         due(told + " | knew 10 3 8 0", -1);
         due(told + " | knew 10 3 8 1", -1);
         due(told + " | knew 10 3 9 0", 9);
@@ -223,6 +227,9 @@ public final class WhatComesEdgesTest {
         due(told + "write 1 20 3 6 -1 | write 5 20 5 0 1 | isTrue 0", 1);
         due(TWO + "write 1 20 0 6 -1 | write 0 1 4 100 -1 | isTrue 1", 0);
         due(TWO + "write 1 20 0 6 -1 | write 0 1 5 100 -1 | isTrue 1", 1);
+        due(TWO + "hold 0 3 9 | write 0 1 0 130 -1 | write 1 20 4 39 -1 | isTrue 0", 1);
+        due(TWO + "hold 0 3 9 | write 0 1 0 139 -1 | write 1 20 4 38 -1 | isTrue 0", 0);
+        due(TWO + "write 0 1 0 102 -1 | write 1 20 4 29 -1 | isTrue 0", 1);
         due(TWO + "write 0 1 0 0 -1 | lose 0 2 | isTrue 0", 1);
         due(TWO + "write 0 1 0 0 -1 | lose 0 1 | isTrue 0", -3);
     }
