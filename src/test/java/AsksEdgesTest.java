@@ -126,6 +126,9 @@ public final class AsksEdgesTest {
         due(one + "write 0 1 0 0 -1 | write 5 1 0 0 0 | whatever 0 3 1", 1);
         due(one + "write 0 1 0 0 -1 | write 5 1 0 0 0 | whatever 1 3 1", 1);
         due("way 90 30 0 0 | turn 9 | write 1 1 400 0 -1 | whatever 0 0 0", 1);
+        due(times("write 1 1 0 0 -1", 16) + "whatever 15 0 0", 16);
+        due(times("write 1 1 0 0 -1", 16) + "whatever 15 6 0", 10);
+        due(times("write 1 1 0 0 -1", 16) + "whatever 15 6 1", 16);
         String five = TWO + "write 0 2 0 0 -1 | ".repeat(5);
         due(five + "write 1 1 0 0 -1 | whatever 5 6 2", 32);
         due(five + "write 1 1 0 0 -1 | whatever 5 5 2", -1);
@@ -218,6 +221,8 @@ public final class AsksEdgesTest {
         due(one + "write 2 10 5 0 0 | write 2 10 9 0 0 | bargain 0 2", 10);
         due(one + "write 2 10 5 0 0 | lose 1 1 | bargain 0 2", -1);
         due(one + "write 2 10 5 0 0 | lose 0 1 | bargain 0 2", -1);
+        due(one + "write 2 10 5 0 0 | write 2 10 6 0 0 | lose 2 1 | bargain 0 2", 10);
+        due(one + "write 2 10 5 0 0 | write 2 10 6 0 0 | lose 1 1 | bargain 0 2", 11);
         due(one + "write 2 10 5 0 -1 | bargain 0 2", -1);
         due(one + "write 2 12 5 0 0 | bargain 0 2", -1);
         due(one + "write 2 20 5 0 0 | bargain 0 2", -1);

@@ -147,6 +147,11 @@ public final class LawEdgesTest {
             fault("late " + number, 5);
             fault("late 1 " + number, 7);
         }
+        fault("12345 0;write 0;keep 0;", 0);
+        fault("late 0;12345 0;keep 0;", 7);
+        fault("late 0;write 0;12345 0;", 15);
+        fault("late 0 12345;write 0;keep 0;", 7);
+        fault("late 0;write 0;keep 0;12345", 22);
         fault("late 1234", 9);
         fault("late 1234 5;write 0;keep 0;", 10);
         fault("late 1234day;write 0;keep 0;", 9);
