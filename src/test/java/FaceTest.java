@@ -1,17 +1,12 @@
-import java.io.IOException;
 import java.lang.reflect.Member;
 import java.lang.reflect.Method;
 import java.lang.reflect.Modifier;
-import java.nio.file.Files;
-import java.nio.file.Path;
 import java.util.ArrayList;
 import java.util.Arrays;
 import java.util.List;
 import java.util.TreeSet;
-import java.util.regex.Matcher;
-import java.util.regex.Pattern;
 
-/** The public face is the document's, and the file keeps to some rules of LANGUAGE.md that are easily looked at. */
+/** The public face is the document's. */
 public final class FaceTest {
     private static final Due DUE = new Due("FaceTest");
     private static final String FACE = "way 4, turn 1, hold 3, count 1, arrive 2, cheapest 2, last 2, text 0, force 1, write 5, "
@@ -24,7 +19,6 @@ public final class FaceTest {
         constants();
         methods();
         nothingElse();
-        source();
         DUE.close();
     }
 
@@ -77,40 +71,5 @@ public final class FaceTest {
         for (Class<?> inside : LettersThatCross.class.getDeclaredClasses()) {
             due(inside.getName() + " is static", Modifier.isStatic(inside.getModifiers()) ? 1 : 0, 1);
         }
-    }
-
-    private static void source() throws IOException {
-        String source = Files.readString(Path.of("src/main/java/LettersThatCross.java"));
-        String code = source.replaceAll("(?s)/\\*.*?\\*/", "").replaceAll("//[^\n]*", "");
-        String[] ruledOut = {"\\bpackage\\b", "\\bthrow", "\\btry\\b", "\\bcatch\\b", "\\bsynchronized\\b", "\\bassert\\b", "->", "::",
-            "\\bvar\\b", "\\bObject\\b", "Exact\\b", "\\bequals\\b", "\\bhashCode\\b", "\\btoString\\b", "\\bSystem\\.(?!arraycopy)",
-            "\\bprotected\\b", "\\bstatic \\{", "\\[\\]\\[\\]\\["};
-        for (String rule : ruledOut) {
-            due("places of " + rule, places(code, rule), 0);
-        }
-        due("imports", places(code, "\\bimport\\b"), places(code, "import java\\.util\\.Arrays;"));
-        due("signs of the file beyond 127", source.chars().filter(c -> c > 127).count(), 0);
-        due("lines of the longest method, at most 60", Math.max(60, longestMethod(code)), 60);
-    }
-
-    private static int longestMethod(String code) {
-        Matcher method = Pattern.compile("(?m)^( {4}| {8})\\S.*\\) \\{\n(?:\\1 .*\n|\n)*\\1\\}$").matcher(code);
-        int found = 0;
-        int longest = 0;
-        while (method.find()) {
-            found++;
-            longest = Math.max(longest, method.group().split("\n").length);
-        }
-        due("methods found, at least 47", Math.min(47, found), 47);
-        return longest;
-    }
-
-    private static int places(String code, String rule) {
-        Matcher matcher = Pattern.compile(rule).matcher(code);
-        int found = 0;
-        while (matcher.find()) {
-            found++;
-        }
-        return found;
     }
 }
